@@ -25,8 +25,11 @@ public final class TermsTest {
         doubtAtLaterSensors();
         clearingWithoutStop();
         clearingWithStop();
+        listHasDoubtFirst();
         listHasNoneTwice();
         lostOutOfDoubt();
+        offByAnotherFault();
+        doubleOfOneThatHasLeft();
         itemsAheadOfTheBelt();
         Due.end();
     }
@@ -248,6 +251,16 @@ public final class TermsTest {
         kinds(x, 1, STRANGER, JAM);
         Due.row("doubt", new int[] {1, 2}, i -> x.doubt(2, i));
         Due.is("its sensor", 0, x.alarm(0, 3));
+
+        JamRules second = belt(1000, 5000);
+        second.item(100, 0);
+        second.item(100, 200);
+        second.item(100, 400);
+        second.edge(0, true, 1000);
+        second.edge(0, false, 1100);
+        second.edge(0, true, 1200);
+        Due.is("the second", 1, second.edge(0, false, 1801));
+        Due.row("with the first it has done", new int[] {2, 3}, i -> second.doubt(1, i));
 
         JamRules stranger = belt(1000, 5000);
         stranger.edge(0, true, 100);
@@ -473,6 +486,21 @@ public final class TermsTest {
         kinds(x, 2, STRANGER);
     }
 
+    private static void listHasDoubtFirst() {
+        Due.about("those in doubt come first");
+        JamRules x = belt(1000, 1500);
+        x.rule(1, 1, false);
+        x.item(100, 0);
+        x.item(100, 200);
+        x.item(100, 2000);
+        x.edge(0, true, 1000);
+        x.edge(0, false, 1100);
+        Due.is("stranger", 1, x.edge(0, true, 1120));
+        Due.row("doubt", new int[] {2}, i -> x.doubt(1, i));
+        clear(x, 1);
+        Due.row("then the others", new int[] {2, 1, 3}, x::listed);
+    }
+
     private static void listHasNoneTwice() {
         Due.about("none twice, none that was fed");
         JamRules x = belt(1000);
@@ -528,6 +556,36 @@ public final class TermsTest {
         Due.row("doubt", new int[] {}, i -> x.doubt(1, i));
         clear(x, 1);
         Due.row("off by one that stops", new int[] {2}, x::listed);
+    }
+
+    private static void offByAnotherFault() {
+        Due.about("off by another fault");
+        JamRules x = belt(1000, 1500);
+        x.item(100, 0);
+        x.item(100, 2000);
+        Due.is("1 loses what 0 has not seen", 1, x.edge(1, true, 1516));
+        kinds(x, 1, LOST, STRANGER);
+        x.plant(6, 1520);
+        clear(x, 1);
+        clear(x, 2);
+        clear(x, 3);
+        Due.row("not off by the stop", new int[] {2}, x::listed);
+        Due.is("not on the list", STATE, x.feed(1));
+    }
+
+    private static void doubleOfOneThatHasLeft() {
+        Due.about("a double of one that has left");
+        JamRules x = belt(1000, 1100);
+        x.item(500, 0);
+        x.edge(0, true, 1000);
+        x.edge(1, true, 1100);
+        Due.is("short at 1", 1, x.edge(1, false, 1200));
+        Due.is("double at 0", 2, x.edge(0, false, 1516));
+        kinds(x, 1, SHORT, DOUBLE);
+        Due.row("it was on the belt", new int[] {1}, i -> x.doubt(1, i));
+        Due.row("it had left", new int[] {}, i -> x.doubt(2, i));
+        clear(x, 1);
+        Due.row("it is off", new int[] {1}, x::listed);
     }
 
     private static void itemsAheadOfTheBelt() {
