@@ -1,6 +1,10 @@
 import java.util.Random;
+import java.util.function.ToIntFunction;
 
-/** Arbitrary calls, the same ones each time: none throws, and one that is refused changes nothing. */
+/**
+ * Arbitrary calls, the same ones each time: none throws, and one that is refused changes nothing, so a twin
+ * that never gets the refused ones answers all others alike.
+ */
 public final class AnyCallsTest {
     private static final int RUNS = 3000, CALLS = 300;
     private static final long[] ODD = {
@@ -9,6 +13,7 @@ public final class AnyCallsTest {
 
     private final Random dice;
     private final JamRules x = new JamRules();
+    private final JamRules twin = new JamRules();
     private long now = 0L;
     private long nextHead = 0L;
 
@@ -27,102 +32,116 @@ public final class AnyCallsTest {
     private void play(boolean odd) {
         int sensors = 1 + dice.nextInt(8);
         for (int s = 0; s < sensors; s++) {
-            x.sensor(100L + 100L * s * (1 + dice.nextInt(3)));
+            long at = 100L + 100L * s * (1 + dice.nextInt(3));
+            both("sensor", y -> y.sensor(at));
         }
         for (int c = 0; c < CALLS; c++) {
-            String before = c % 10 == 0 ? shown() : "";
-            String call = "";
-            long got = 0;
-            try {
-                int what = dice.nextInt(odd ? 13 : 20);
-                call = "call of " + what;
-                got = odd && dice.nextInt(3) == 0 ? oddCall(what) : likelyCall(what);
-            } catch (RuntimeException thrown) {
-                Due.is(call + " threw " + thrown, 0, 1);
+            int what = dice.nextInt(odd ? 13 : 20);
+            if (odd && dice.nextInt(3) == 0) {
+                both("odd call of " + what, oddCall(what));
+            } else {
+                likelyCall(what);
             }
-            if (got <= -11) {
-                Due.is("a refusal's number", true, got >= -14);
-            }
-            if (got <= -11 && !before.isEmpty()) {
-                Due.is(call + " was refused and changed something", true, before.equals(shown()));
+            if (c % 50 == 0) {
+                Due.is("the twin shows the same", true, Shown.now(x).equals(Shown.now(twin)));
             }
         }
+        Due.is("the twin shows the same at last", true, Shown.now(x).equals(Shown.now(twin)));
     }
 
-    private long oddCall(int what) {
-        int a = (int) ODD[dice.nextInt(ODD.length)];
-        int b = (int) ODD[dice.nextInt(ODD.length)];
-        long t = ODD[dice.nextInt(ODD.length)];
-        boolean flag = dice.nextBoolean();
-        switch (what) {
-            case 0: return x.sensor(t);
-            case 1: return x.item(a, t);
-            case 2: return x.edge(a, flag, t == 1000000000L ? now : t);
-            case 3: return x.doubt(a, b);
-            case 4: return x.cause(a);
-            case 5: return x.step(a, b);
-            case 6: return x.feed(a);
-            case 7: return x.listed(a);
-            case 8: return x.rule(a, b, flag);
-            case 9: return x.plant(a, t == 1000000000L ? now : t);
-            case 10: return x.alarm(a, b);
-            case 11: return x.count(a);
-            default: return x.goesOn() ? 1 : 0;
+    private int both(String name, ToIntFunction<JamRules> call) {
+        int got = 0;
+        try {
+            got = call.applyAsInt(x);
+            if (got > JamRules.UNKNOWN) {
+                Due.is(name + " of the twin", got, call.applyAsInt(twin));
+            }
+        } catch (RuntimeException thrown) {
+            Due.is(name + " threw " + thrown, 0, 1);
         }
-    }
-
-    private long likelyCall(int what) {
-        switch (what) {
-            case 0: case 1: return likelyItem();
-            case 2: return x.rule(1 + dice.nextInt(6), dice.nextInt(4) == 0 ? 1 : 0, dice.nextInt(6) == 0);
-            case 3: now += dice.nextInt(30); return x.plant(1 + dice.nextInt(6), now);
-            case 4: return x.feed(1 + dice.nextInt(60));
-            case 5: case 6: case 7: case 8: return clearFirst();
-            default:
-                now += dice.nextInt(dice.nextInt(20) == 0 ? 700 : 60);
-                return x.edge(dice.nextInt(8), dice.nextBoolean(), now);
-        }
-    }
-
-    private long likelyItem() {
-        long length = 50 + dice.nextInt(200);
-        long at = Math.max(nextHead, now) + dice.nextInt(40);
-        int got = x.item(length, at);
-        if (got > 0) {
-            nextHead = at + length + 30;
-        }
+        Due.is("no refusal has the number " + got, true, got >= JamRules.ROOM && (got <= JamRules.UNKNOWN || got >= -1));
         return got;
     }
 
-    private long clearFirst() {
+    private ToIntFunction<JamRules> oddCall(int what) {
+        int a = (int) ODD[dice.nextInt(ODD.length)];
+        int b = (int) ODD[dice.nextInt(ODD.length)];
+        long t = ODD[dice.nextInt(ODD.length)];
+        long near = t == 1000000000L ? now : t;
+        boolean flag = dice.nextBoolean();
+        switch (what) {
+            case 0: return y -> y.sensor(t);
+            case 1: return y -> y.item(a, t);
+            case 2: return y -> y.edge(a, flag, near);
+            case 3: return y -> y.doubt(a, b);
+            case 4: return y -> y.cause(a);
+            case 5: return y -> y.step(a, b);
+            case 6: return y -> y.feed(a);
+            case 7: return y -> y.listed(a);
+            case 8: return y -> y.rule(a, b, flag);
+            case 9: return y -> y.plant(a, near);
+            case 10: return y -> y.alarm(a, b);
+            case 11: return y -> y.count(a);
+            default: return y -> y.goesOn() ? 1 : 0;
+        }
+    }
+
+    private void likelyCall(int what) {
+        switch (what) {
+            case 0: case 1: likelyItem(); break;
+            case 2: likelyRule(); break;
+            case 3: likelyPlant(); break;
+            case 4: likelyFeed(); break;
+            case 5: case 6: case 7: case 8: clearFirst(); break;
+            default: likelyEdge(); break;
+        }
+    }
+
+    private void likelyItem() {
+        long length = 50 + dice.nextInt(200);
+        long at = Math.max(nextHead, now) + dice.nextInt(40) - 2;
+        if (both("item", y -> y.item(length, at)) > 0) {
+            nextHead = at + length + 30;
+        }
+    }
+
+    private void likelyRule() {
+        int kind = 1 + dice.nextInt(6);
+        int does = dice.nextInt(4) == 0 ? 1 : 0;
+        boolean throwsUp = dice.nextInt(6) == 0;
+        both("rule", y -> y.rule(kind, does, throwsUp));
+    }
+
+    private void likelyPlant() {
+        int kind = 1 + dice.nextInt(6);
+        long t = now + dice.nextInt(30) - 2;
+        if (both("plant", y -> y.plant(kind, t)) > 0) {
+            now = t;
+        }
+    }
+
+    private void likelyFeed() {
+        int item = 1 + dice.nextInt(60);
+        both("feed", y -> y.feed(item));
+    }
+
+    private void likelyEdge() {
+        int sensor = dice.nextInt(8);
+        boolean dark = dice.nextBoolean();
+        long t = now + dice.nextInt(dice.nextInt(20) == 0 ? 700 : 60) - 2;
+        if (both("edge", y -> y.edge(sensor, dark, t)) >= 0) {
+            now = t;
+        }
+    }
+
+    private void clearFirst() {
         int first = 0;
         for (int i = 0; x.alarm(i, 0) > 0; i++) {
             int fault = x.alarm(i, 0);
             first = first == 0 ? fault : Math.min(first, fault);
         }
-        return x.step(first, 1 + dice.nextInt(5));
-    }
-
-    /** All that can be asked without a change. */
-    private String shown() {
-        StringBuilder all = new StringBuilder();
-        for (int s = 0; s < 9; s++) {
-            all.append(x.count(s)).append(' ');
-        }
-        for (int f = 1; f < 42; f++) {
-            all.append(x.cause(f)).append(' ');
-            for (int i = 0; x.doubt(f, i) > 0; i++) {
-                all.append(x.doubt(f, i)).append(',');
-            }
-        }
-        for (int i = 0; x.alarm(i, 0) > 0; i++) {
-            for (int what = 0; what < 5; what++) {
-                all.append(x.alarm(i, what)).append(' ');
-            }
-        }
-        for (int i = 0; x.listed(i) > 0; i++) {
-            all.append(x.listed(i)).append(';');
-        }
-        return all.append(x.goesOn()).toString();
+        int asked = first;
+        int step = 1 + dice.nextInt(5);
+        both("step", y -> y.step(asked, step));
     }
 }
