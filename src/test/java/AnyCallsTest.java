@@ -46,7 +46,8 @@ public final class AnyCallsTest {
                 Due.is("the twin shows the same", true, Shown.now(x).equals(Shown.now(twin)));
             }
         }
-        Due.is("the twin shows the same at last", true, Shown.now(x).equals(Shown.now(twin)));
+        long[] times = {now, now + 20, now + 600, now + 1200, now + 12000};
+        Due.is("the twin goes on alike", true, Shown.later(x, times, 1).equals(Shown.later(twin, times, 1)));
     }
 
     private int both(String name, ToIntFunction<JamRules> call) {
